@@ -560,43 +560,51 @@ public final class ToldFigures {
      */
     private static final class Rounding {
         static int least(int v, int rule, int factor, int divisor) {
-            return leastNotBelow((long) lowEndTwice(v, rule) * divisor, 2L * factor, v, rule);
+            long low = lowEndTwice(v, rule);
+            return leastFrom(low * divisor, 2L * factor, endsAreOut(v, rule));
         }
 
         static int most(int v, int rule, int factor, int divisor) {
-            return mostNotAbove((long) highEndTwice(v, rule) * divisor, 2L * factor, v, rule);
+            long high = highEndTwice(v, rule);
+            return mostTo(high * divisor, 2L * factor, endsAreIn(v, rule));
         }
 
         static int leastOfRoot(int v, int rule, int factor, int divisor) {
-            long low = Math.max(lowEndTwice(v, rule), 0);
-            return leastNotBelow(low * low * divisor, 4L * factor * factor, v, rule);
+            long low = lowEndTwice(v, rule);
+            return leastFrom(low * low * divisor, 4L * factor * factor, endsAreOut(v, rule));
         }
 
         static int mostOfRoot(int v, int rule, int factor, int divisor) {
             long high = highEndTwice(v, rule);
-            return mostNotAbove(high * high * divisor, 4L * factor * factor, v, rule);
+            return mostTo(high * high * divisor, 4L * factor * factor, endsAreIn(v, rule));
         }
 
-        /** Twice, since the end may be a half. */
+        /** Twice, since the end may be a half; not below 0, since x is not. */
         private static int lowEndTwice(int v, int rule) {
-            return rule == CUT ? 2 * v : 2 * v - 1;
+            return rule == CUT ? 2 * v : Math.max(2 * v - 1, 0);
         }
 
         private static int highEndTwice(int v, int rule) {
-            return lowEndTwice(v, rule) + 2;
+            return rule == CUT ? 2 * v + 2 : 2 * v + 1;
         }
 
-        /** Both ends of an even number are rounded to it by the even rule, of an odd one none. */
-        private static int leastNotBelow(long low, long unit, int v, int rule) {
-            boolean endIsIn = rule != EVEN || v % 2 == 0;
-            long step = Math.max(unit, 1);
-            return (int) Math.max(Math.floorDiv(endIsIn ? low + step - 1 : low + step, step), 0);
+        /** The even rule rounds both ends to an even v and none to an odd one; others the low end. */
+        private static boolean endsAreIn(int v, int rule) {
+            return rule == EVEN && v % 2 == 0;
         }
 
-        private static int mostNotAbove(long high, long unit, int v, int rule) {
-            boolean endIsIn = rule == EVEN && v % 2 == 0;
+        private static boolean endsAreOut(int v, int rule) {
+            return rule == EVEN && v % 2 != 0;
+        }
+
+        private static int leastFrom(long low, long unit, boolean endIsOut) {
             long step = Math.max(unit, 1);
-            return (int) Math.floorDiv(endIsIn ? high : high - 1, step);
+            return (int) ((endIsOut ? low + step : low + step - 1) / step);
+        }
+
+        private static int mostTo(long high, long unit, boolean endIsIn) {
+            long step = Math.max(unit, 1);
+            return (int) ((endIsIn ? high : high - 1) / step);
         }
     }
 
@@ -692,19 +700,16 @@ public final class ToldFigures {
             return size * squares - sum * sum;
         }
 
+        /** The mark at a place is as great as there are marks that end ahead of it. */
         int middleTwice() {
-            return markAt((size - 1) / 2) + markAt(size / 2);
-        }
-
-        private int markAt(int place) {
-            int ahead = 0;
+            int twice = 0;
+            int upToHere = 0;
             for (int mark = 0; mark < MARKS; mark++) {
-                ahead += counts[mark];
-                if (ahead > place) {
-                    return mark;
-                }
+                upToHere += counts[mark];
+                twice += upToHere <= (size - 1) / 2 ? 1 : 0;
+                twice += upToHere <= size / 2 ? 1 : 0;
             }
-            return 0;
+            return twice;
         }
     }
 
@@ -864,33 +869,29 @@ public final class ToldFigures {
         /** Finds for rows of so many marks when each claim holds. */
         void settle(int marksInRow) {
             for (int i = 0; i < size; i++) {
-                settleClaim(i, marksInRow);
-            }
-        }
-
-        private void settleClaim(int i, int marksInRow) {
-            switch (kinds[i]) {
-                case MEAN:
-                    settleRounded(i, SCALES[behind[i]], marksInRow);
-                    break;
-                case SPREAD:
-                    settleRoot(i, SCALES[behind[i]], marksInRow * (marksInRow - 1));
-                    break;
-                case WHOLE_SPREAD:
-                    settleRoot(i, SCALES[behind[i]], marksInRow * marksInRow);
-                    break;
-                case MIDDLE:
-                    settleRounded(i, SCALES[behind[i]], 2);
-                    break;
-                case SHARE:
-                    settleRounded(i, 100, marksInRow);
-                    break;
-                case COUNT:
-                    settleOne(i, numbers[i]);
-                    break;
-                default:
-                    settleOne(i, marks[i]);
-                    break;
+                switch (kinds[i]) {
+                    case MEAN:
+                        settleRounded(i, SCALES[behind[i]], marksInRow);
+                        break;
+                    case SPREAD:
+                        settleRoot(i, SCALES[behind[i]], marksInRow * (marksInRow - 1));
+                        break;
+                    case WHOLE_SPREAD:
+                        settleRoot(i, SCALES[behind[i]], marksInRow * marksInRow);
+                        break;
+                    case MIDDLE:
+                        settleRounded(i, SCALES[behind[i]], 2);
+                        break;
+                    case SHARE:
+                        settleRounded(i, 100, marksInRow);
+                        break;
+                    case COUNT:
+                        settleOne(i, numbers[i]);
+                        break;
+                    default:
+                        settleOne(i, marks[i]);
+                        break;
+                }
             }
         }
 
