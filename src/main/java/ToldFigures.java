@@ -655,17 +655,19 @@ public final class ToldFigures {
             greatest = NONE;
             commonest = NONE;
             int most = 0;
-            for (int mark = 0; mark < MARKS; mark++) {
-                int there = countIn(number, mark);
+            int rest = number;
+            for (int mark = MARKS - 1; mark >= 0; mark--) {
+                int there = rest % 10;
+                rest /= 10;
                 counts[mark] = there;
-                size += there;
-                sum += mark * there;
-                squares += mark * mark * there;
                 if (there > 0) {
-                    least = least == NONE ? mark : least;
-                    greatest = mark;
+                    size += there;
+                    sum += mark * there;
+                    squares += mark * mark * there;
+                    least = mark;
+                    greatest = greatest == NONE ? mark : greatest;
                 }
-                if (there > most) {
+                if (there > 0 && there >= most) {
                     most = there;
                     commonest = mark;
                 }
@@ -952,7 +954,8 @@ public final class ToldFigures {
         final int[] numbers = new int[MOST_ROWS];
         final int[] held = new int[MOST_ROWS];
         final int[] holdTogether = new int[CLAIM_SETS];
-        final int[] tally = new int[MOST_N + 1];
+        /** How many rows have 0, 1, .. 9 of mark 0, then of mark 1, and so on. */
+        final int[] tally = new int[10 * MARKS];
         int size;
 
         void fill(int marks, int highest, Row row) {
@@ -1085,27 +1088,33 @@ public final class ToldFigures {
             if (howMany(believed) < 2) {
                 return NONE;
             }
+            tallyMarks(believed);
             int best = 0;
-            int fewestLeft = MOST_ROWS + 1;
-            for (int mark = 0; mark < MARKS; mark++) {
-                int left = mostLeft(believed, mark);
-                if (left < fewestLeft) {
-                    fewestLeft = left;
+            for (int mark = 1; mark < MARKS; mark++) {
+                if (mostLeft(mark) < mostLeft(best)) {
                     best = mark;
                 }
             }
             return best;
         }
 
-        private int mostLeft(int believed, int mark) {
+        private void tallyMarks(int believed) {
             Arrays.fill(tally, 0);
-            int most = 0;
             for (int k = 0; k < size; k++) {
                 if (canBe(k, believed)) {
-                    int there = Row.countIn(numbers[k], mark);
-                    tally[there]++;
-                    most = Math.max(most, tally[there]);
+                    int rest = Math.max(numbers[k], 0);
+                    for (int mark = MARKS - 1; mark >= 0; mark--) {
+                        tally[10 * mark + rest % 10]++;
+                        rest /= 10;
+                    }
                 }
+            }
+        }
+
+        private int mostLeft(int mark) {
+            int most = 0;
+            for (int there = 0; there < 10; there++) {
+                most = Math.max(most, tally[10 * mark + there]);
             }
             return most;
         }

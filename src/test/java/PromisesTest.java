@@ -49,6 +49,9 @@ public final class PromisesTest {
         count();
         findings();
         digest();
+        nothingIsLeftOver();
+        fullSheets();
+        fullRows();
         CHECK.end();
     }
 
@@ -275,7 +278,7 @@ public final class PromisesTest {
         due("put(6)", x.put(6), BAD);
         due("put(-5)", x.put(-5), BAD);
         due("put(10000004)", x.put(10000004), BAD);
-        due("put(14000000)", x.put(14000000), BAD);
+        due("put(15000000)", x.put(15000000), BAD);
         due("put(least)", x.put(Integer.MIN_VALUE), BAD);
         due("put(greatest)", x.put(Integer.MAX_VALUE), BAD);
         x.set(1, 5);
@@ -832,5 +835,85 @@ public final class PromisesTest {
         x.sheet(2, 0, 0);
         due("digest() with a FAULT", x.digest(), mixed(5, 6, 5, 0, 1, 5, -3, -3, -3, -3, -3));
         due("digest() changes nothing", x.digest(), mixed(5, 6, 5, 0, 1, 5, -3, -3, -3, -3, -3));
+    }
+
+    // ---- edges of what is held inside
+
+    /** What stood in a longer text, sheet or row table must not be read again in a shorter one. */
+    private static void nothingIsLeftOver() {
+        ToldFigures x = typed(5, "m=12t;l=0");
+        x.wipe();
+        typeInto(x, "m=1");
+        due("number of a shorter text", x.claim(0, 2), 1);
+        x.wipe();
+        typeInto(x, "m=12");
+        due("rule of a shorter text", x.claim(0, 4), 0);
+        due("claims() of a shorter text", x.claims(), 1);
+        due("count(3) of a shorter text", x.count(3), 1);
+        x.type(';');
+        due("fault() of a shorter text", x.fault(), 5);
+        x.wipe();
+        x.type('m');
+        due("fault() of one byte", x.fault(), 1);
+        x.wipe();
+        typeInto(x, "l=0;g=0");
+        x.wipe();
+        typeInto(x, "l=0;");
+        due("fault() of a shorter text, at its end", x.fault(), 4);
+        x.wipe();
+        x.set(0, 9);
+        due("can() of nine", x.can(), 5005);
+        x.set(0, 1);
+        due("can() of one", x.can(), 7);
+        due("ways() of one", x.ways(), 7);
+        due("bound(-1, 1) of one", x.bound(-1, 1), 6);
+        due("ranked(7) of one", x.ranked(7), NONE);
+        layOn(x, 0, 2, 1, 2, 3, 4, 5, 200);
+        layOn(x, 1, 2, 1, 2, 3, 4, 5, 200);
+        x.sheet(0, 2, 2);
+        due("shares of a shorter sheet", x.share(0, 0, 1), 0);
+        due("last 0 of a shorter sheet", x.last(0, 0), 2);
+        due("get beyond a shorter sheet", x.get(0, 2, 2), LEAST_INT);
+        due("write to a shorter sheet", x.write(0), 2);
+        x.sheet(0, 2, 5);
+        due("nothing behind it", x.get(0, 2, 2), 0);
+    }
+
+    private static void fullSheets() {
+        ToldFigures x = new ToldFigures();
+        int[] rising = new int[60];
+        for (int i = 0; i < 60; i++) {
+            rising[i] = 5 * i - 100;
+        }
+        layOn(x, 0, 1, rising);
+        x.sheet(1, 1, 60);
+        due("copy of sixty", x.copy(0, 0, 1, 0, 60), 1);
+        x.lay(1, 1, 0, 7);
+        copiesAre(x, 59, 1, 0, 5);
+        due("twice of sixty", x.twice(0, 2), -5);
+        due("twice of sixty, below", x.twice(0, 1), 2);
+        x.sheet(2, 0, 60);
+        due("shares of sixty 0s", x.shares(2, 0, 0), 0);
+        due("the least of them", x.shares(2, 2, 1), NONE);
+        x.lay(2, 0, 59, 100);
+        due("shares of 0s and 100", x.shares(2, 0, 0), 300);
+        x.lay(2, 0, 59, 80);
+        due("the least of 0s and 80: 81 and twenty 1s", x.shares(2, 2, 1), 101);
+        due("last 9 of 12", laid(2, 9, 9, 9, 9, 9, 9, 9, 9, 9, 9, 9, 9).lastChance(0), 0);
+    }
+
+    private static void fullRows() {
+        ToldFigures x = typed(9, "");
+        due("ranked(5004)", x.ranked(5004), 9);
+        due("ranked(5005)", x.ranked(5005), NONE);
+        due("ask() of nine", x.ask(), 0);
+        due("bound(0, 1) of nine", x.bound(0, 1), 9);
+        due("bound(-1, 1) of nine", x.bound(-1, 1), 54);
+        typeInto(x, "c0=0;c1=0;c2=0;c3=0;c4=0;c5=0;c6=0;l=0;g=6;o=3");
+        due("fewest() of ten", x.fewest(), 1 + 8 + 64);
+        due("quarrel() of ten", x.quarrel(), 1 + 128);
+        due("alone() of ten", x.alone(), 0);
+        ToldFigures y = typed(9, "h0=0%;h1=101%;l=0;g=6");
+        due("alone() of shares", y.alone(), 3);
     }
 }
