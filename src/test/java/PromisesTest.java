@@ -500,6 +500,8 @@ public final class PromisesTest {
         due("NULL tells count(8)", x.count(8), 1);
         due("least of 50, 50", laid(0, 50, 50).shares(0, 0, 1), 2);
         due("least of 17, 17, 67", laid(0, 17, 17, 67).shares(0, 0, 1), 6);
+        due("least of 50, 49, 0 by u: 101, 99, 1", laid(0, 50, 49, 0).shares(0, 0, 1), 201);
+        due("least of 50, 49, 0 by e: 101, 98, 1", laid(0, 50, 49, 0).shares(0, 1, 1), 200);
         due("shares of no items", laid(0).shares(0, 0, 1), NONE);
     }
 
@@ -868,6 +870,10 @@ public final class PromisesTest {
         due("ways() of one", x.ways(), 7);
         due("bound(-1, 1) of one", x.bound(-1, 1), 6);
         due("ranked(7) of one", x.ranked(7), NONE);
+        x.sheet(3, 2, 60);
+        due("write of one", x.write(3), 7);
+        due("the last of them", x.get(3, 2, 6), 1);
+        due("nothing behind the last", x.get(3, 2, 7), 0);
         layOn(x, 0, 2, 1, 2, 3, 4, 5, 200);
         layOn(x, 1, 2, 1, 2, 3, 4, 5, 200);
         x.sheet(0, 2, 2);
