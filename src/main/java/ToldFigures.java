@@ -6,6 +6,10 @@ public final class ToldFigures {
 
     private static final int NULL = 1, INDEX = 2, CAST = 3, STORE = 4, SIZE = 5;
 
+    /** Written as shifts: LANGUAGE.md lists functions of Integer and Long, not their constants. */
+    private static final int LEAST_INT = 1 << 31;
+    private static final long LEAST_LONG = 1L << 63;
+
     private static final int MARKS = 7;
     private static final int MOST_N = 9;
     private static final int FIRST_N = 5;
@@ -363,12 +367,12 @@ public final class ToldFigures {
 
     public int get(int s, int form, int i) {
         if (!isSheet(s) || !isForm(form)) {
-            return Integer.MIN_VALUE;
+            return LEAST_INT;
         }
         int trouble = itemTrouble(sheets[s], form, i);
         if (trouble != 0) {
             finding = trouble;
-            return Integer.MIN_VALUE;
+            return LEAST_INT;
         }
         return sheets[s].item(i);
     }
@@ -445,7 +449,7 @@ public final class ToldFigures {
     // ---- what the calls share
 
     private static long refusedLong(int refusal) {
-        return Long.MIN_VALUE - refusal;
+        return LEAST_LONG - refusal;
     }
 
     private int found(int number) {

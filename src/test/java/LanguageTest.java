@@ -29,7 +29,7 @@ public final class LanguageTest {
     /** What the source may call on a name with a capital letter that is not a class of its own. */
     private static final List<String> LIBRARY = List.of(
             "Math.max", "Math.min", "Math.abs", "Math.floorDiv", "Math.floorMod", "Integer.bitCount",
-            "Integer.MIN_VALUE", "Long.MIN_VALUE", "Arrays.fill", "System.arraycopy");
+            "Arrays.fill", "System.arraycopy");
 
     public static void main(String[] args) throws Exception {
         face();
